@@ -15,15 +15,15 @@ public final class PromiseTest {
         promise = 6; sessions();
         promise = 7; reads();
         promise = 8; writes();
-        promise = 9; joins(); joinChecks(); joinsOfEqualWrites();
+        promise = 9; joins(); joinChecks(); joinsOfEqualWrites(); joinsOfAllThings();
         promise = 10; conflicts(); conflictsStayAsTheyWere();
         promise = 11; settles(); settlesToTheValueOfThen(); settlesOfReads(); settlesRefused();
         promise = 12; staleByItself(); staleByOthers();
         promise = 13; branches();
         promise = 14; froms(); fromAfterMore();
-        promise = 15; runs(); runsOfKinds(); runsThatAreSpared();
+        promise = 15; runs(); runsOfKinds(); runsThatAreSpared(); runsOfAllSteps();
         promise = 16; values();
-        promise = 17; plays(); playsWithSteps(); playsWithoutThings();
+        promise = 17; plays(); playsWithSteps(); playsAtZero(); playsWithoutThings();
         System.out.println(wrong == 0 ? "all promises hold" : wrong + " answers are not as due");
         if (wrong != 0) {
             System.exit(1);
@@ -319,6 +319,28 @@ public final class PromiseTest {
         due("join(2, false): a read is enough", 1, x.join(2, false));
     }
 
+    private static void joinsOfAllThings() {
+        VersionJoins x = new VersionJoins();
+        for (int i = 0; i < 24; i++) {
+            x.thing(i);
+        }
+        for (int session = 0; session < 2; session++) {
+            x.session();
+            for (int i = 0; i < 24; i++) {
+                yes("write", x.write(session, i, 100 * (session + 1) + i));
+            }
+        }
+        due("join(0, false)", 0, x.join(0, false));
+        due("join(1, false)", 24, x.join(1, false));
+        for (int i = 0; i < 24; i++) {
+            due("value", 100 + i, x.value(0, i));
+            due("conflict(k, 1)", 200 + i, x.conflict(i, 1));
+            yes("settle(k, 0)", x.settle(i, 0));
+        }
+        due("join(1, false)", 0, x.join(1, false));
+        due("value(0, 23)", 223, x.value(0, 23));
+    }
+
     private static void conflicts() {
         VersionJoins x = with(1, 2, 3, 4);
         x.session();
@@ -594,10 +616,12 @@ public final class PromiseTest {
     }
 
     private static void runsOfKinds() {
-        long[][] inputs = {{}, {-3}, {-3, -9}, {4, 4, 6, 4}, {Long.MAX_VALUE, 1, Long.MIN_VALUE, Long.MIN_VALUE}};
+        long[][] inputs = {
+            {}, {-3}, {-3, -9}, {4, 4, 6, 4}, {Long.MAX_VALUE, 1, Long.MIN_VALUE, Long.MIN_VALUE},
+            {-8, -7, -6, -5, -4, -3, -2, -1}};
         long[][] want = {
             {0, 0, 0, 0}, {-3, -3, -3, 1}, {-12, -3, -3 ^ -9, 2}, {18, 6, 4 ^ 6, 2},
-            {Long.MIN_VALUE, Long.MAX_VALUE, Long.MAX_VALUE ^ 1, 3}};
+            {Long.MIN_VALUE, Long.MAX_VALUE, Long.MAX_VALUE ^ 1, 3}, {-36, -1, 0, 8}};
         for (int row = 0; row < inputs.length; row++) {
             for (int kind = 0; kind < 4; kind++) {
                 VersionJoins x = with(inputs[row]);
@@ -628,6 +652,28 @@ public final class PromiseTest {
         due("value(0, 1)", 1, x.value(0, 1));
         no("stale(0)", x.stale(0));
         no("stale(1)", x.stale(1));
+    }
+
+    private static void runsOfAllSteps() {
+        VersionJoins x = with(1, 2, 3, 4, 5, 6, 7, 8, 9, 10, 11, 12, 13);
+        for (int i = 0; i < 12; i++) {
+            x.step(0);
+        }
+        for (int i = 0; i < 12; i++) {
+            // The steps stand in a row against their numbers, so that the last thing is at the end.
+            yes("uses", x.uses(11 - i, i));
+            yes("makes", x.makes(11 - i, i + 1));
+        }
+        no("uses(11, 12): through all", x.uses(11, 12));
+        yes("run(0)", x.run(0));
+        due("value(0, 12)", 1, x.value(0, 12));
+        set(x, 0, 6);
+        yes("stale(0)", x.stale(0));
+        yes("run(0)", x.run(0));
+        due("value(0, 12)", 6, x.value(0, 12));
+        for (int i = 0; i < 12; i++) {
+            no("stale", x.stale(i));
+        }
     }
 
     private static void values() {
@@ -710,6 +756,21 @@ public final class PromiseTest {
             }
             due("stale(0)", turn < 0 ? 0 : 1, x.stale(0) ? 1 : 0);
         }
+    }
+
+    /** With this seed x is 0 in the first turn: that is not below 0. */
+    private static void playsAtZero() {
+        long inverse = 1;
+        for (int i = 0; i < 6; i++) {
+            inverse *= 2 - 6364136223846793005L * inverse;
+        }
+        long seed = -1442695040888963407L * inverse;
+        due("x of the first turn", 0, next(seed));
+        VersionJoins x = with(7, 8);
+        x.step(0);
+        due("play", 1, x.play(seed, 1));
+        due("value(0, 0)", 0, x.value(0, 0));
+        yes("stale(0): no step ran", x.stale(0));
     }
 
     private static void playsWithoutThings() {
