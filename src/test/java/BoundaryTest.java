@@ -9,7 +9,7 @@ public final class BoundaryTest {
     private static final int[] FAR = {-1, -2, 64, 99, 1 << 16, Integer.MIN_VALUE, Integer.MAX_VALUE};
 
     private static String sentence = "";
-    private static int sentences = 0;
+    private static int cases = 0;
     private static int wrong = 0;
 
     public static void main(String[] args) {
@@ -30,7 +30,7 @@ public final class BoundaryTest {
         promisesOfSettles();
         promisesOfSteps();
         promisesOfPlay();
-        System.out.println(sentences + " boundary sentences, "
+        System.out.println(cases + " boundary cases, "
             + (wrong == 0 ? "all hold" : wrong + " answers are not as due"));
         if (wrong != 0) {
             System.exit(1);
@@ -39,7 +39,7 @@ public final class BoundaryTest {
 
     private static void holds(String where, String words, Runnable test) {
         sentence = where + ": " + words;
-        sentences++;
+        cases++;
         try {
             test.run();
         } catch (RuntimeException e) {
