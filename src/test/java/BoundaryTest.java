@@ -1,6 +1,6 @@
 /**
  * Each sentence of the document that names a boundary case (too small, too large, empty, full, a
- * wrap-around, a refused call), in the document's order, with a test of its own.
+ * wrap-around, a refused call), with a test of its own: those of the terms, then of the promises.
  */
 public final class BoundaryTest {
     private static final long BOUND = 1_000_000_000_000L;
