@@ -14,7 +14,7 @@ public final class PromiseTest {
         promise = 5; makesOrdinary(); makesInCircles();
         promise = 6; sessions();
         promise = 7; reads();
-        promise = 8; writes();
+        promise = 8; writes(); writesKeepTheBase();
         promise = 9; joins(); joinChecks(); joinsOfEqualWrites(); joinsOfAllThings();
         promise = 10; conflicts(); conflictsStayAsTheyWere();
         promise = 11; settles(); settlesToTheValueOfThen(); settlesOfReads(); settlesRefused();
@@ -253,6 +253,20 @@ public final class PromiseTest {
         due("value(0, 0)", 3, x.value(0, 0));
         due("value(0, 1): not written", 6, x.value(0, 1));
         no("write(0, 0, 1): joined", x.write(0, 0, 1));
+    }
+
+    /** No read here: it would keep the base by itself. */
+    private static void writesKeepTheBase() {
+        VersionJoins x = with(5);
+        x.session();
+        yes("write(0, 0, 7)", x.write(0, 0, 7));
+        set(x, 0, 6);
+        yes("write(0, 0, 8)", x.write(0, 0, 8));
+        due("join(0, false): the base is 5 still", 1, x.join(0, false));
+        due("conflict(0, 1)", 8, x.conflict(0, 1));
+        set(x, 0, 5);
+        due("join(0, false): the value is the base again", 0, x.join(0, false));
+        due("value(0, 0)", 8, x.value(0, 0));
     }
 
     private static void joins() {
